@@ -10,6 +10,7 @@ public final class ClipAndBufferTest {
         appendCharacter();
         clearClip();
         begin();
+        beginForgetsEdits();
         insertOrder();
         insertErrors();
         insertRoom();
@@ -101,6 +102,22 @@ public final class ClipAndBufferTest {
         Check.due("no characters", x.count(1), 0);
         Check.due("snapshot stays", x.restore(1), 6);
         Check.due("text of the snapshot", Check.text(x), "eXYllo");
+    }
+
+    private static void beginForgetsEdits() {
+        PricedUndo x = Check.begun("ab");
+        Check.insert(x, 1, "X");
+        Check.insert(x, 2, "Y");
+        Check.due("erase", x.erase(0, 4), 2);
+        Check.clip(x, "ab");
+        Check.due("begin", x.begin(), 2);
+        Check.due("erase where an insertion was", x.erase(0, 1), 0);
+        Check.due("erase where an insertion with a base was", x.erase(0, 1), 1);
+        Check.due("it is an erasure", x.edit(0, 0), 1);
+        Check.due("it rests on none", x.edit(1, 5), 0);
+        Check.due("none rests on the first", x.edit(0, 6), 0);
+        Check.due("insert where an erasure was", Check.insert(x, 0, "X"), 2);
+        Check.due("it is an insertion", x.edit(2, 0), 0);
     }
 
     // Promise 5

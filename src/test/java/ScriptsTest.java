@@ -178,6 +178,7 @@ public final class ScriptsTest {
         Check.due("none is possible", Check.script(x, "+4:a;-1,1;-2,1;-0,4;<0;>0;@4;<16;>31;<32;>99;@99;"), 0);
         Check.due("text", Check.text(x), "abc");
         Check.due("no edits", x.count(2), 0);
+        Check.due("0 is a number, but no stretch ends there", Check.script(x, "-0,0;@0;"), 1);
         Check.due("the others are carried out", Check.script(x, "<0;+3:xy;>0;<0;<0;@4;@3;>0;"), 4);
         Check.due("text", Check.text(x), "abcxy");
         Check.due("cursor", x.count(4), 3);

@@ -6,6 +6,7 @@ public final class SnapshotsTest {
     public static void main(String[] args) {
         wrongSlots();
         saveAndRestore();
+        basesAreSaved();
         whatIsNotSaved();
         twoSlots();
         difference();
@@ -59,6 +60,23 @@ public final class SnapshotsTest {
         x.begin();
         Check.due("restore the newer", x.restore(0), 9);
         Check.due("edits", x.count(2), 5);
+    }
+
+    private static void basesAreSaved() {
+        PricedUndo x = Check.begun("ab");
+        Check.insert(x, 1, "X");
+        Check.insert(x, 2, "Y");
+        x.erase(0, 1);
+        String before = Check.state(x);
+        Check.due("save", x.save(0), 3);
+        Check.clip(x, "cd");
+        x.begin();
+        x.erase(0, 1);
+        x.erase(0, 1);
+        Check.insert(x, 0, "q");
+        Check.due("restore over other edits", x.restore(0), 3);
+        Check.due("all is as it was", Check.state(x), before);
+        Check.due("what rests on the first", x.closure(0), 3);
     }
 
     private static void whatIsNotSaved() {
