@@ -20,6 +20,7 @@ public final class PricedUndo {
     private static final int LAST_CODE = 126;
     private static final int LAST_SCRIPT_CODE = 255;
     private static final int HIGHEST_RATE = 9;
+    private static final int DISTANCE_STEP = 4;
     private static final int SCRIPT_ERROR = -10;
     /** What run() takes for the characters that were there from the beginning. */
     private static final int NOBODY = -1;
@@ -282,10 +283,12 @@ public final class PricedUndo {
         if (!isSlot(slot)) {
             return INVALID_ARGUMENT;
         }
-        if (slots[slot] == null) {
-            slots[slot] = new Buffer();
+        Buffer saved = slots[slot];
+        if (saved == null) {
+            saved = new Buffer();
+            slots[slot] = saved;
         }
-        slots[slot].copyFrom(buffer);
+        saved.copyFrom(buffer);
         return buffer.length;
     }
 
@@ -665,7 +668,7 @@ public final class PricedUndo {
         int priceOf(int edit, int ageRate, int distanceRate) {
             int younger = Integer.bitCount(active >> edit + 1);
             int distance = Math.abs(placeOf(edit) - cursor);
-            return 1 + ageRate * younger + distanceRate * (distance / 4);
+            return 1 + ageRate * younger + distanceRate * (distance / DISTANCE_STEP);
         }
 
         int priceOfSet(int set, int ageRate, int distanceRate) {
