@@ -2,15 +2,21 @@
 final class Check {
     private static int wrong = 0;
     private static int asked = 0;
+    private static String sentence = "";
 
     private Check() {
+    }
+
+    /** Names the sentence of the document to which the answers from here on belong. */
+    static void sentence(String words) {
+        sentence = "\"" + words + "\": ";
     }
 
     static void due(String call, long got, long want) {
         asked++;
         if (got != want) {
             wrong++;
-            System.out.println(call + " answered " + got + ", due is " + want);
+            System.out.println(sentence + call + " answered " + got + ", due is " + want);
         }
     }
 
@@ -18,7 +24,7 @@ final class Check {
         asked++;
         if (!got.equals(want)) {
             wrong++;
-            System.out.println(call + " answered \"" + got + "\", due is \"" + want + "\"");
+            System.out.println(sentence + call + " answered \"" + got + "\", due is \"" + want + "\"");
         }
     }
 
@@ -30,8 +36,9 @@ final class Check {
     }
 
     static void clip(PricedUndo x, String text) {
+        int before = x.count(5);
         for (int i = 0; i < text.length(); i++) {
-            due("appendCharacter", x.appendCharacter(text.charAt(i)), x.count(5));
+            due("appendCharacter", x.appendCharacter(text.charAt(i)), before + i + 1);
         }
     }
 
@@ -57,8 +64,10 @@ final class Check {
 
     static String text(PricedUndo x) {
         StringBuilder text = new StringBuilder();
-        for (int place = 0; x.character(place) >= 0; place++) {
-            text.append((char) x.character(place));
+        int code = x.character(0);
+        for (int place = 1; code >= 0; place++) {
+            text.append((char) code);
+            code = x.character(place);
         }
         return text.toString();
     }

@@ -178,9 +178,8 @@ public final class ClipAndBufferTest {
             Check.due("insert " + edit, Check.insert(x, 0, "x"), edit);
         }
         Check.clip(x, "x");
-        before = Check.state(x);
         Check.due("the 17th edit", x.insert(0), FULL);
-        Check.due("nothing changed", Check.state(x), before);
+        Check.due("edits", x.count(2), 16);
         Check.due("the gap comes first", x.insert(-1), INVALID);
         x.clearClip();
         Check.due("the clip comes ahead of the room", x.insert(0), ILLEGAL);
