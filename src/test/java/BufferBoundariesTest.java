@@ -24,6 +24,7 @@ public final class BufferBoundariesTest {
     private static void description() {
         usedFor512Calls();
         atMost160Characters();
+        visibleUnlessErased();
         placesFromZero();
         textOfAtMost60();
         gapsUpToTheLength();
@@ -113,6 +114,24 @@ public final class BufferBoundariesTest {
         Check.due("the order of the first text", Check.text(x), Check.letters(60));
         Check.due("all edits brought back", x.bringBack(32767), 44);
         Check.due("the last of the text", x.character(43), 'z');
+    }
+
+    private static void visibleUnlessErased() {
+        Check.sentence("A character is visible if it was there from the beginning or the edit that inserted it is active, and no"
+            + " active edit has erased it.");
+        PricedUndo x = Check.begun("ab");
+        Check.due("insert X", Check.insert(x, 1, "X"), 0);
+        for (int edit = 1; edit <= 2; edit++) {
+            Check.due("erase aX", x.erase(0, 2), edit);
+            Check.due("they show again", x.takeBack(1 << edit), 3);
+        }
+        Check.due("erased by both", x.bringBack(6), 1);
+        Check.due("erased by one", x.takeBack(2), 1);
+        Check.due("text", Check.text(x), "b");
+        Check.due("erased by none", x.takeBack(4), 3);
+        Check.due("text", Check.text(x), "aXb");
+        Check.due("its insertion is not active", x.takeBack(1), 2);
+        Check.due("text", Check.text(x), "ab");
     }
 
     private static void placesFromZero() {
@@ -307,6 +326,17 @@ public final class BufferBoundariesTest {
         Check.due("no edit 0", x.edit(0, 0), INVALID);
         Check.due("there is room for an edit again", Check.insert(x, 1, "c"), 0);
         Check.due("text", Check.text(x), "acb");
+        Check.due("an insertion where an erasure was", x.edit(0, 0), 0);
+        Check.due("an erasure where an insertion was", x.erase(0, 1), 1);
+        Check.due("its kind", x.edit(1, 0), 1);
+
+        PricedUndo y = Scene.chainOf16();
+        Check.clip(y, "abcd");
+        Check.due("begin", y.begin(), 4);
+        for (int edit = 0; edit < 4; edit++) {
+            Check.due("erase", y.erase(0, 1), edit);
+            Check.due("it rests on none, where one with bases was", y.edit(edit, 5), 0);
+        }
     }
 
     private static void beginKeepsTheRest() {

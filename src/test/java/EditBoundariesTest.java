@@ -214,7 +214,8 @@ public final class EditBoundariesTest {
         for (int what = 0; what <= 6; what++) {
             Check.due("property " + what + " of one not active", x.edit(4, what), due[what]);
         }
-        Check.due("an active one", x.edit(3, 4) > 0 ? 1 : 0, 1);
+        Check.due("an active one", x.edit(3, 1), 1);
+        Check.due("its price", x.edit(3, 4) > 0 ? 1 : 0, 1);
         Check.due("what is out of range first", x.edit(4, 7), INVALID);
         Check.due("no such edit", x.edit(5, 4), INVALID);
         x.bringBack(16);
@@ -439,6 +440,7 @@ public final class EditBoundariesTest {
         for (int set : new int[] {2, 4, 6, 2 + 8}) {
             Refusal.due("bringBack " + set, () -> Scene.sampleWithout(31), x -> x.bringBack(set), ILLEGAL);
         }
+        Check.due("it has no base", Scene.sampleWithout(31).bringBack(8), 5);
         Check.due("its base belongs to the set", Scene.sampleWithout(31).bringBack(3), 7);
         Check.due("its base is active", Scene.sampleWithout(6).bringBack(2), 7);
         Supplier<PricedUndo> chain = () -> {

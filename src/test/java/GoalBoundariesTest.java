@@ -278,6 +278,11 @@ public final class GoalBoundariesTest {
         goal("the beginning", GoalBoundariesTest::sample, 2, 'a', 0, 0);
         goal("none is smaller", GoalBoundariesTest::sample, 3, 0, 0, 0);
         goal("a new object", PricedUndo::new, 3, 1, 0, 0);
+        PricedUndo x = Scene.sample();
+        for (int i = 0; i < 2; i++) {
+            Check.due("one goal behind another: the length", x.cheapest(0, 5), 0);
+            Check.due("one goal behind another: none of them", x.cheapest(1, 'q'), 0);
+        }
     }
 
     private static void canBeTakenBack() {
@@ -347,6 +352,10 @@ public final class GoalBoundariesTest {
             return x;
         };
         // 1 each, 9 for each of 66 pairs, and 9 for each whole 4 of the distances 16 to 5.
+        PricedUndo asked = make.get();
+        Check.due("asked for another goal ahead of it", asked.cheapest(0, 16), 0);
+        Check.due("all twelve", asked.cheapest(0, 4), 4095);
+        Check.due("and for the first one again", asked.cheapest(0, 16), 0);
         goal("all twelve", make, 0, 4, 4095, 12 + 9 * 66 + 9 * (4 + 4 * 3 + 4 * 2 + 3));
     }
 

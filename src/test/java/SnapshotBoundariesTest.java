@@ -136,8 +136,6 @@ public final class SnapshotBoundariesTest {
 
     private static void restoreFullBuffer() {
         Check.sentence("Returns the length of the text then (a full and an empty buffer)");
-        PricedUndo x = new PricedUndo();
-        Check.due("save an empty one", x.save(1), 0);
         PricedUndo y = fullBuffer();
         String full = Check.text(y);
         Check.due("save a full one", y.save(0), 43);
@@ -153,6 +151,17 @@ public final class SnapshotBoundariesTest {
         Check.due("edits", y.count(2), 0);
         Check.due("the first edit", Check.insert(y, 0, "a"), 0);
         Check.due("all characters", y.count(1), 1);
+
+        PricedUndo x = Scene.chainOf16();
+        Check.due("save", x.save(0), 16);
+        Check.clip(x, Check.letters(16));
+        Check.due("begin", x.begin(), 16);
+        for (int edit = 0; edit < 16; edit++) {
+            Check.due("erase", x.erase(0, 1), edit);
+        }
+        Check.due("restore over 16 other edits", x.restore(0), 16);
+        Check.due("the last one rests on all others", x.edit(15, 5), 32767);
+        Check.due("it is an insertion", x.edit(15, 0), 0);
     }
 
     /** 160 characters and 16 edits. */
