@@ -24,6 +24,7 @@ public final class BufferBoundariesTest {
     private static void description() {
         usedFor512Calls();
         atMost160Characters();
+        the160thIsTheLastOfAll();
         visibleUnlessErased();
         placesFromZero();
         textOfAtMost60();
@@ -114,6 +115,25 @@ public final class BufferBoundariesTest {
         Check.due("the order of the first text", Check.text(x), Check.letters(60));
         Check.due("all edits brought back", x.bringBack(32767), 44);
         Check.due("the last of the text", x.character(43), 'z');
+    }
+
+    private static void the160thIsTheLastOfAll() {
+        Check.sentence("at most 160 (the last of them, in the order of all characters, was inserted)");
+        PricedUndo x = Scene.with160Characters();
+        Check.due("text", Check.text(x).substring(40), "hwxyz");
+        Check.due("author", x.author(44), 14);
+        Check.due("the one ahead of them", x.author(40), NONE);
+        Check.due("erase the last of all", x.erase(44, 45), 15);
+        Check.due("it rests on its insertion", x.edit(15, 5), 1 << 14);
+        Check.due("its place", x.edit(15, 3), 44);
+        Check.due("cheapest without z", x.cheapest(1, 'z'), ILLEGAL);
+        Check.due("take back all but the erasure of the first text and the last two", x.takeBack((1 << 14) - 2), 4);
+        Check.due("text", Check.text(x), "hwxy");
+        Check.due("cheapest for a text of 5", x.cheapest(0, 5), 1 << 15);
+        Check.due("take it back", x.takeBack(1 << 15), 5);
+        Check.due("text", Check.text(x), "hwxyz");
+        Check.due("cheapest without z", x.cheapest(1, 'z'), 1 << 14);
+        Check.due("clearing of the last of all", x.clearing(4, 5), 1 << 14);
     }
 
     private static void visibleUnlessErased() {

@@ -44,9 +44,13 @@ final class Check {
 
     static PricedUndo begun(String text) {
         PricedUndo x = new PricedUndo();
+        begin(x, text);
+        return x;
+    }
+
+    static void begin(PricedUndo x, String text) {
         clip(x, text);
         due("begin", x.begin(), text.length());
-        return x;
     }
 
     static int insert(PricedUndo x, int gap, String text) {

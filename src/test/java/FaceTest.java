@@ -5,7 +5,9 @@ import java.lang.reflect.Method;
 import java.lang.reflect.Modifier;
 import java.nio.file.Files;
 import java.nio.file.Path;
+import java.util.ArrayList;
 import java.util.Arrays;
+import java.util.List;
 import java.util.Set;
 import java.util.TreeSet;
 import java.util.regex.Matcher;
@@ -23,6 +25,8 @@ public final class FaceTest {
         constants();
         methods();
         fields();
+        sizes();
+        methodLengths();
         forbiddenWords();
         extremeArguments();
         Check.finish();
@@ -37,10 +41,7 @@ public final class FaceTest {
 
     private static void methods() {
         Set<String> due = new TreeSet<>(Set.of(FACE));
-        Set<String> names = new TreeSet<>();
-        for (String entry : FACE) {
-            names.add(entry.substring(0, entry.indexOf('/')));
-        }
+        Set<String> names = publicNames();
         Set<String> found = new TreeSet<>();
         for (Method method : PricedUndo.class.getDeclaredMethods()) {
             if (Modifier.isPrivate(method.getModifiers())) {
@@ -68,11 +69,53 @@ public final class FaceTest {
         Check.due("open fields", found.toString(), "[CAPACITY_EXCEEDED, ILLEGAL_STATE, INVALID_ARGUMENT, NONE]");
         for (Class<?> inside : PricedUndo.class.getDeclaredClasses()) {
             Check.due(inside + " is static", Modifier.isStatic(inside.getModifiers()) ? 1 : 0, 1);
-            for (Field field : inside.getDeclaredFields()) {
+        }
+        for (Class<?> each : allClasses()) {
+            for (Field field : each.getDeclaredFields()) {
                 boolean changing = Modifier.isStatic(field.getModifiers()) && !Modifier.isFinal(field.getModifiers());
                 Check.due(field + " is a changing static field", changing ? 1 : 0, 0);
             }
         }
+    }
+
+    private static List<Class<?>> allClasses() {
+        List<Class<?>> all = new ArrayList<>(List.of(PricedUndo.class.getDeclaredClasses()));
+        all.add(PricedUndo.class);
+        return all;
+    }
+
+    /** Rule 11: the numbers of classes, of a class's fields and of a method's parameters; rule 1: the names inside. */
+    private static void sizes() {
+        Check.due("at most twelve classes", allClasses().size() <= 12 ? 1 : 0, 1);
+        for (Class<?> each : allClasses()) {
+            long fields = Arrays.stream(each.getDeclaredFields()).filter(f -> !Modifier.isStatic(f.getModifiers())).count();
+            Check.due(each + " has at most twenty fields", fields <= 20 ? 1 : 0, 1);
+            for (Method method : each.getDeclaredMethods()) {
+                Check.due(method + " takes at most seven", method.getParameterCount() <= 7 ? 1 : 0, 1);
+                boolean taken = each != PricedUndo.class && publicNames().contains(method.getName());
+                Check.due(method + " bears a public name", taken ? 1 : 0, 0);
+            }
+        }
+    }
+
+    private static Set<String> publicNames() {
+        Set<String> names = new TreeSet<>();
+        for (String entry : FACE) {
+            names.add(entry.substring(0, entry.indexOf('/')));
+        }
+        return names;
+    }
+
+    /** Rule 11: methods stay short. A method begins at a line with one or two indents that ends with ") {". */
+    private static void methodLengths() throws IOException {
+        Matcher method = Pattern.compile("(?ms)^((?: {4}){1,2})(?=\\S)(?!class)([^\\n;]*\\) \\{)\\n.*?^\\1\\}$")
+            .matcher(Files.readString(SOURCE));
+        int found = 0;
+        while (method.find()) {
+            found++;
+            Check.due(method.group(2) + " is short", method.group().lines().count() <= 60 ? 1 : 0, 1);
+        }
+        Check.due("methods are found", found > FACE.length ? 1 : 0, 1);
     }
 
     private static void forbiddenWords() throws IOException {

@@ -14,8 +14,25 @@ final class Scene {
 
     /** 156 characters, of which 40 are visible, and 14 edits: erasures 0 and 8, else insertions ahead of all. */
     static PricedUndo with156Characters() {
-        PricedUndo x = Check.begun(Check.letters(60));
-        Check.due("erase the first text", x.erase(0, 60), 0);
+        PricedUndo x = new PricedUndo();
+        fill(x, 60);
+        Check.due("all characters", x.count(1), 156);
+        return x;
+    }
+
+    /** 160 characters, of which 45 are visible: edit 14 inserted the last four behind all others. */
+    static PricedUndo with160Characters() {
+        PricedUndo x = new PricedUndo();
+        fill(x, 59);
+        Check.due("the last four", Check.insert(x, 41, "wxyz"), 14);
+        Check.due("all characters", x.count(1), 160);
+        return x;
+    }
+
+    /** Begins with 60 letters, of which the first ones are erased, and makes 156 characters of them by edits 0 to 13. */
+    static void fill(PricedUndo x, int erased) {
+        Check.begin(x, Check.letters(60));
+        Check.due("erase the first text", x.erase(0, erased), 0);
         for (int edit = 1; edit <= 7; edit++) {
             Check.due("insert " + edit, Check.insert(x, 0, Check.letters(8)), edit);
         }
@@ -23,8 +40,6 @@ final class Scene {
         for (int edit = 9; edit <= 13; edit++) {
             Check.due("insert " + edit, Check.insert(x, 0, Check.letters(8)), edit);
         }
-        Check.due("all characters", x.count(1), 156);
-        return x;
     }
 
     /** As many edits as there may be, each of which rests on all that were made before it. */

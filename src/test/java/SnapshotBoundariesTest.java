@@ -18,10 +18,13 @@ public final class SnapshotBoundariesTest {
         restoreKeepsTheSlot();
         restoreCursor();
         restoreFullBuffer();
+        restoreOver160Others();
+        restoreForgetsTheLastErasure();
         differenceOutOfRange();
         differenceFromNothing();
         differenceOfPlaces();
         differenceOfLengths();
+        differenceAtTheLastPlaces();
         differenceChangesNothing();
         Check.finish();
     }
@@ -164,6 +167,32 @@ public final class SnapshotBoundariesTest {
         Check.due("it is an insertion", x.edit(15, 0), 0);
     }
 
+    private static void restoreOver160Others() {
+        Check.sentence("Restores buffer, edits and cursor from a slot (over as many characters and edits as there may be)");
+        PricedUndo x = Scene.with160Characters();
+        String text = Check.text(x);
+        Check.due("save", x.save(0), 45);
+        Scene.fill(x, 60);
+        Check.due("160 again", Check.insert(x, 0, "stuv"), 14);
+        Check.due("all characters", x.count(1), 160);
+        Check.due("restore", x.restore(0), 45);
+        Check.due("text", Check.text(x), text);
+        Check.due("the author of the last of all", x.author(44), 14);
+        Check.due("its insertion alone is taken back", x.takeBack(1 << 14), 41);
+    }
+
+    private static void restoreForgetsTheLastErasure() {
+        Check.sentence("Restores ... edits (an erasure of the last of all characters is gone)");
+        PricedUndo x = Scene.with160Characters();
+        Check.due("save", x.save(1), 45);
+        Check.due("erase the last of all", x.erase(44, 45), 15);
+        Check.due("restore", x.restore(1), 45);
+        Check.due("another erasure bears its number", x.erase(0, 1), 15);
+        Check.due("the last of all still shows", x.character(43), 'z');
+        Check.due("length", x.count(0), 44);
+        Check.due("one character was erased", x.edit(15, 2), 1);
+    }
+
     /** 160 characters and 16 edits. */
     private static PricedUndo fullBuffer() {
         PricedUndo x = Scene.with156Characters();
@@ -230,6 +259,23 @@ public final class SnapshotBoundariesTest {
         Check.due("save", x.save(1), 3);
         Check.due("take back", x.takeBack(1), 4);
         Check.due("hidden ones do not count", x.difference(1), 1);
+    }
+
+    private static void differenceAtTheLastPlaces() {
+        Check.sentence("the places that both have (the last one of a full text; the last one of all characters)");
+        PricedUndo x = Check.begun(Check.letters(60));
+        Check.due("save", x.save(0), 60);
+        Check.due("none", x.difference(0), 0);
+        Check.due("begin", x.begin(), 0);
+        Check.due("all", x.difference(0), 60);
+        Check.due("restore", x.restore(0), 60);
+        Check.due("the last one", x.character(59), 'h');
+        Check.due("none", x.difference(0), 0);
+        PricedUndo y = Scene.with160Characters();
+        Check.due("save", y.save(1), 45);
+        Check.due("none", y.difference(1), 0);
+        Check.due("erase the last of all", y.erase(44, 45), 15);
+        Check.due("one", y.difference(1), 1);
     }
 
     private static void differenceChangesNothing() {
